@@ -139,6 +139,9 @@ public final class PromiseTest {
         due(x.count(6), 0);
         due(tell(x, " \n \n"), 0);
         due(x.states(), -2);
+        for (int what = 0; what < 9; what++) {
+            due(x.count(what), 0);
+        }
         due(x.cell(0), -2);
         due(x.all(0), -2);
         due(x.undo(), -2);

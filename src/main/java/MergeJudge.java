@@ -593,7 +593,7 @@ public final class MergeJudge {
         if (!isTold() || set < 0 || set >= 1 << told.rules) {
             return NO_SUCH;
         }
-        return chances.worthOf(set);
+        return judge.totalWith(chances.othersDropped(set), told.lockedOps);
     }
 
     public int share(int rule, int what) {
@@ -1154,28 +1154,25 @@ public final class MergeJudge {
                 rows[from + i] = NONE;
             }
             for (int i = 0; i < shape.length(); i++) {
-                if (!passNumberAs(shape.charAt(i), rows[from + 1])) {
-                    return false;
+                char sort = shape.charAt(i);
+                if (token != NUMBER) {
+                    return failed(MISPLACED);
                 }
-                rows[from + 1 + i] = passed;
+                boolean isAgain = sort == 'B' && number == rows[from + 1];
+                if (isAgain || number > highestOf(sort) || sort == 'P' && number == 0) {
+                    return failed(OUT_OF_BOUNDS);
+                }
+                rows[from + 1 + i] = number;
+                next();
             }
             return true;
         }
 
-        private boolean passNumberAs(char sort, int first) {
-            if (sort == 'N') {
-                return passNumber(0, draft.top);
+        private int highestOf(char sort) {
+            if (sort == 'A' || sort == 'B') {
+                return draft.cells - 1;
             }
-            if (sort == 'P') {
-                return passNumber(1, draft.top);
-            }
-            if (sort == 'S') {
-                return passNumber(0, MOST_SUM);
-            }
-            if (sort == 'B' && token == NUMBER && number == first) {
-                return failed(OUT_OF_BOUNDS);
-            }
-            return passNumber(0, draft.cells - 1);
+            return sort == 'S' ? MOST_SUM : draft.top;
         }
 
         private boolean passNumber(int low, int high) {
@@ -1226,30 +1223,29 @@ public final class MergeJudge {
                 token = END;
                 return;
             }
-            int sign = tape.bytes[at];
-            if (isLetter(sign)) {
+            if (isLetterNext()) {
                 token = WORD;
-                while (at < tape.size && isLetter(tape.bytes[at])) {
+                while (at < tape.size && isLetterNext()) {
                     at++;
                 }
-            } else if (isDigit(sign)) {
+            } else if (isDigitNext()) {
                 token = NUMBER;
-                while (at < tape.size && isDigit(tape.bytes[at])) {
+                while (at < tape.size && isDigitNext()) {
                     number = Math.min(HUGE, number * 10 + tape.bytes[at] - '0');
                     at++;
                 }
             } else {
-                token = sign == ';' ? SIGN : STRANGE;
+                token = tape.bytes[at] == ';' ? SIGN : STRANGE;
                 at++;
             }
         }
 
-        private static boolean isLetter(int sign) {
-            return sign >= 'a' && sign <= 'z';
+        private boolean isLetterNext() {
+            return tape.bytes[at] >= 'a' && tape.bytes[at] <= 'z';
         }
 
-        private static boolean isDigit(int sign) {
-            return sign >= '0' && sign <= '9';
+        private boolean isDigitNext() {
+            return tape.bytes[at] >= '0' && tape.bytes[at] <= '9';
         }
     }
 
@@ -1437,7 +1433,7 @@ public final class MergeJudge {
                 case 1:
                     return second;
                 case 2:
-                    return Math.max(first, second);
+                    return first > second ? first : second;
                 default:
                     return base;
             }
@@ -1567,7 +1563,7 @@ public final class MergeJudge {
 
         int outcome(int op, int state) {
             int result = space.results[op * MOST_STATES + state];
-            return result != NONE && isValid(result) ? result : NONE;
+            return result != NONE && (validStates >>> result & 1) != 0 ? result : NONE;
         }
 
         int openOps(int state) {
@@ -1703,27 +1699,21 @@ public final class MergeJudge {
         }
 
         private void mark(int base, long reached, long free) {
+            int[] packed = space.packed;
             for (int first = 0; first < space.size; first++) {
                 broken[first] = 0;
-                if ((reached >>> first & 1) != 0) {
-                    broken[first] = brokenWith(base, first, (free >>> first & 1) != 0 ? reached : free);
+                if ((reached >>> first & 1) == 0) {
+                    continue;
                 }
-            }
-        }
-
-        private long brokenWith(int base, int first, long seconds) {
-            long found = 0;
-            int packedBase = space.packed[base];
-            int packedFirst = space.packed[first];
-            for (int second = first; second < space.size; second++) {
-                if ((seconds >>> second & 1) != 0) {
-                    int result = merger.mergePacked(packedBase, packedFirst, space.packed[second]);
-                    if ((validStates >>> result & 1) == 0) {
-                        found |= 1L << second;
+                // A first side that is not free needs a second one that is.
+                long seconds = (free >>> first & 1) != 0 ? reached : free;
+                for (int second = first; second < space.size; second++) {
+                    if ((seconds >>> second & 1) != 0) {
+                        int result = merger.mergePacked(packed[base], packed[first], packed[second]);
+                        broken[first] |= isValid(result) ? 0 : 1L << second;
                     }
                 }
             }
-            return found;
         }
 
         int unlikePairs(int d) {
@@ -1877,24 +1867,23 @@ public final class MergeJudge {
         private final Base told;
         private final Judge judge;
         private final int[] worths = new int[MOST_SETS];
+        /** By the choices of two OPS: 1 the first one is LOCKED, 2 the other one. */
+        private final int[] breaksBy = new int[4];
 
         Chances(Base told, Judge judge) {
             this.told = told;
             this.judge = judge;
         }
 
-        private int everyRule() {
-            return (1 << told.rules) - 1;
-        }
-
-        int worthOf(int set) {
-            return judge.totalWith(told.droppedRules | everyRule() & ~set, told.lockedOps);
+        int othersDropped(int set) {
+            int everyRule = (1 << told.rules) - 1;
+            return told.droppedRules | everyRule & ~set;
         }
 
         long shareOf(int rule, int what) {
             int own = 1 << rule;
             for (int set = 0; set < 1 << told.rules && set < MOST_SETS; set++) {
-                worths[set] = worthOf(set);
+                worths[set] = judge.totalWith(othersDropped(set), told.lockedOps);
             }
             long above = 0;
             for (int set = 0; set < 1 << told.rules && set < MOST_SETS; set++) {
@@ -1936,12 +1925,15 @@ public final class MergeJudge {
         }
 
         int restsOf(int op, int other) {
+            for (int pair = 0; pair < 4; pair++) {
+                int lockedOps = told.lockedOps | (pair & 1) << op | (pair >> 1) << other;
+                breaksBy[pair] = judge.totalWith(told.droppedRules, lockedOps);
+            }
             int found = 0;
             for (int pair = 0; pair < 4; pair++) {
-                int x = pair & 1;
-                int y = pair >> 1;
-                boolean content = gain(op, x, other, y) >= gain(op, 1 - x, other, y);
-                boolean otherContent = gain(other, y, op, x) >= gain(other, 1 - y, op, x);
+                // What an OP GETS beside BREAKS and its own choice stays the same: only these are compared.
+                boolean content = breaksBy[pair] + 2 * (pair & 1) <= breaksBy[pair ^ 1] + 2 * (~pair & 1);
+                boolean otherContent = breaksBy[pair] + (pair & 2) <= breaksBy[pair ^ 2] + (~pair & 2);
                 if (content && otherContent) {
                     found |= 1 << pair;
                 }
