@@ -178,6 +178,9 @@ public final class PromiseTest {
         fault(HEAD + ";", 1, 24);
         fault(HEAD + HEAD, 1, 24);
         fault(HEAD + "cell sum;", 1, 29);
+        fault(HEAD + "bell max;", 1, 24);
+        fault(HEAD + "cell mix;", 1, 29);
+        fault(HEAD + "cell maxx;", 1, 29);
         fault(HEAD + "cell max cell max;", 1, 33);
         fault(HEAD + "rule most 0 0;", 2, 34);
         fault(HEAD + "cell max;rule most 1 9;", 2, 43);
@@ -560,6 +563,12 @@ public final class PromiseTest {
         due(x.pairs(0), 0);
         due(x.pairs(4), -2);
         due(of(EXAMPLE).pairs(2), 5);
+        // From 1, 0 to 0, 0 and to 1, 1, that merge to 0, 1.
+        MergeJudge z = of("base top 1 law 0 odds 0;cell late;cell late;rule order 1 0;op less 0 1;op more 1 1;");
+        due(z.pairs(1), 1);
+        due(z.pairs(1), 1);
+        z.drops(0);
+        due(z.pairs(1), 0);
         promise = 30;
         due(x.safe(0), 1);
         due(x.safe(1), 0);
@@ -627,6 +636,13 @@ public final class PromiseTest {
         int[] two = {1, 2, 2, 3, 2};
         for (int what = 0; what < 5; what++) {
             due(x.least(2, what), two[what]);
+        }
+        // From 1, 1 in three steps to 2, 2: twice that, it merges to 2, 1.
+        x = of("base top 2 law 3 odds 0;cell min;cell late;rule order 0 1;op move 0 1 1;op more 0 1;");
+        int[] six = {4, 8, 8, 5, 6};
+        for (int what = 0; what < 5; what++) {
+            due(x.least(3, what), six[what]);
+            due(x.least(2, what), -1);
         }
         // LOCKED OPS count as steps, too: 2 is one step away by op 1, though freely it is two.
         x = of(COUNTER);
@@ -983,6 +999,8 @@ public final class PromiseTest {
         due(x.gets(-1, 0, 0, 0), -1000000);
         due(x.gets(0, 1, 2, 0), -1000000);
         due(x.gets(0, 1, 0, -1), -1000000);
+        due(x.gets(0, 1, -1, 0), -1000000);
+        due(x.gets(0, 1, 0, 2), -1000000);
         due(new MergeJudge().gets(0, 1, 0, 0), -1000000);
         promise = 63;
         due(x.rests(0, 1), 9);

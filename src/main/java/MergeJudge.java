@@ -1382,18 +1382,9 @@ public final class MergeJudge {
         private final int[] mixed = new int[MOST_CELLS * CELL_PLACES];
 
         void fill(Base base, Space space, int law) {
-            for (int cell = 0; cell < MOST_CELLS; cell++) {
-                if (cell < base.cells) {
-                    fillCell(space, cell, base.kinds[cell], law);
-                } else {
-                    clearCell(cell);
-                }
-            }
-        }
-
-        private void clearCell(int cell) {
-            for (int i = 0; i < CELL_PLACES; i++) {
-                mixed[cell * CELL_PLACES + i] = 0;
+            // A cell that is none has the value 0 in all STATES: its table's first place is 0 by every kind.
+            for (int cell = 0; cell < base.cells && cell < MOST_CELLS; cell++) {
+                fillCell(space, cell, base.kinds[cell], law);
             }
         }
 
@@ -1457,7 +1448,7 @@ public final class MergeJudge {
         /** Of a first side, the second sides, not lesser, with which it is a BREAK, a bit each. */
         private final long[] broken = new long[MOST_STATES];
         private final long[] pairsSeen = new long[MOST_STATES];
-        private final long[] within = new long[DEEPEST + 1];
+        private final long[] within = new long[DEEPEST];
         final int[] hitsOf = new int[MOST_RULES];
         final int[] smallest = new int[5];
 
@@ -1769,7 +1760,7 @@ public final class MergeJudge {
             smallest[4] = 2 * DEEPEST + 1;
             for (int base = 0; base < space.size; base++) {
                 if (breaksFrom(base, d) > 0) {
-                    for (int depth = 0; depth <= DEEPEST; depth++) {
+                    for (int depth = 0; depth < DEEPEST; depth++) {
                         within[depth] = spread(base, depth, 0);
                     }
                     findSmallestFrom(base);
