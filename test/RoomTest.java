@@ -2,11 +2,10 @@ import com.sun.management.ThreadMXBean;
 import java.lang.management.ManagementFactory;
 import java.lang.reflect.Field;
 import java.lang.reflect.Modifier;
-import java.nio.charset.StandardCharsets;
 import java.util.IdentityHashMap;
 
 /** The room: an object is small, calls make no objects, and the dearest calls end soon. */
-public final class RoomTest {
+public final class RoomTest extends Sentences {
     private static final String DEAREST = "base top 3 law 2 odds 5;cell add;cell late;cell max;rule sum 0 1 5;"
             + "rule sum 1 2 5;rule sum 0 2 5;rule if 0 3 1 1;rule unlike 0 2;"
             + "op more 0 1;op more 1 1;op more 2 1;op less 0 1;op move 1 2 1;";
@@ -16,7 +15,9 @@ public final class RoomTest {
         MergeJudge x = new MergeJudge();
         int elements = elementsOf(x, new IdentityHashMap<>());
         boolean small = elements < MOST_ELEMENTS;
-        tell(x);
+        if (tell(x, DEAREST) != 14) {
+            System.exit(1);
+        }
         everything(x);
         ThreadMXBean counter = (ThreadMXBean) ManagementFactory.getThreadMXBean();
         long id = Thread.currentThread().getId();
@@ -30,20 +31,6 @@ public final class RoomTest {
         long made = counter.getThreadAllocatedBytes(id) - before - nothing;
         System.out.println(elements + " fields and elements, " + made + " bytes made by 8 rounds, " + millis + " ms");
         if (!small || made > 4096) {
-            System.exit(1);
-        }
-    }
-
-    private static void tell(MergeJudge x) {
-        byte[] bytes = DEAREST.getBytes(StandardCharsets.ISO_8859_1);
-        int[] n = new int[5];
-        for (int at = 0; at < bytes.length; at += 20) {
-            for (int i = 0; i < 20; i++) {
-                n[i / 4] = n[i / 4] << 8 | (at + i < bytes.length ? bytes[at + i] : 32);
-            }
-            x.feed(n[0], n[1], n[2], n[3], n[4]);
-        }
-        if (x.base() != 14) {
             System.exit(1);
         }
     }
